@@ -11,7 +11,7 @@ public final class Promise01NewObjectTest {
             hasSegments(checks, pair[0], pair[1]);
         }
         isNew(checks, 12);
-        isNew(checks, 128);
+        isNew(checks, 100);
         checks.end();
     }
 

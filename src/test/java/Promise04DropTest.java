@@ -3,7 +3,7 @@ public final class Promise04DropTest {
     public static void main(String[] args) {
         Checks checks = new Checks("promise 4");
         drops(checks, 12);
-        drops(checks, 128);
+        drops(checks, 25);
         refuses(checks);
         checks.end();
     }
@@ -37,5 +37,8 @@ public final class Promise04DropTest {
         for (int block : new int[] {0, -1, 5, 80, -96, Integer.MIN_VALUE, Integer.MAX_VALUE, 288, 2144}) {
             checks.argument("drop(" + block + ")", () -> logs.drop(block));
         }
+        SegmentLogs large = new SegmentLogs(128);
+        checks.state("drop of the last block of 128 segments", () -> large.drop(2143));
+        checks.argument("drop behind the last block of 128 segments", () -> large.drop(2144));
     }
 }

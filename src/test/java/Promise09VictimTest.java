@@ -8,6 +8,7 @@ public final class Promise09VictimTest {
         isTheOneWithTheLeastInUse();
         isGentlyTheOldOne();
         isGentlyRoundedDown();
+        isGentlyOverWhatIsInUse();
         hasAWorthOfZero();
         CHECKS.end();
     }
@@ -88,6 +89,16 @@ public final class Promise09VictimTest {
         due("1 against 1", logs, 1, 0);
         logs.take(5);
         due("1 against 2", logs, 1, 1);
+    }
+
+    private static void isGentlyOverWhatIsInUse() {
+        SegmentLogs logs = withFull(2);
+        logs.checkpoint();
+        // Ages 16 and 32 of 36: (4 * 21) / 28 = 3 and (15 * 5) / 17 = 4, though 84 is more than 75.
+        Checks.takeMany(logs, 5, 4);
+        Checks.dropRange(logs, 96, 4);
+        Checks.dropRange(logs, 112, 15);
+        due("84 / 28 against 75 / 17", logs, 1, 1);
     }
 
     private static void hasAWorthOfZero() {
